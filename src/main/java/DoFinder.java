@@ -85,11 +85,10 @@ public final class DoFinder {
         if (!written.isWhole(arguments)) {
             return KIND;
         }
-        if (library.count >= MOST_ROUTINES) {
-            return FULL;
-        }
         int number = library.take(written, arguments);
-        written.count = 0;
+        if (number != FULL) {
+            written.count = 0;
+        }
         return number;
     }
 
@@ -197,11 +196,11 @@ public final class DoFinder {
     }
 
     public int found(int k) {
-        return search.pickedAt(k, search.pickFound());
+        return search.pickedAt(k, search.pickWays(false));
     }
 
     public int open(int k) {
-        return search.pickedAt(k, search.pickOpen());
+        return search.pickedAt(k, search.pickWays(true));
     }
 
     public int joint(int k) {
@@ -217,7 +216,7 @@ public final class DoFinder {
     }
 
     public int parting(int what) {
-        int ways = search.pickFound();
+        int ways = search.pickWays(false);
         if (what < 0 || what > 3 || ways == 0) {
             return NO_PARTING;
         }
@@ -243,9 +242,9 @@ public final class DoFinder {
             case 2:
                 return search.listWays();
             case 3:
-                return search.pickFound();
+                return search.pickWays(false);
             case 4:
-                return search.pickOpen();
+                return search.pickWays(true);
             case 5:
                 return search.listWays() * library.countTaking(1);
             case 6:
@@ -274,9 +273,6 @@ public final class DoFinder {
     public int differ(int r, int s) {
         if (!library.has(r) || !library.has(s)) {
             return NUMBER;
-        }
-        if (!library.takeAlike(r, s)) {
-            return KIND;
         }
         return library.firstDifference(r, s);
     }
@@ -441,7 +437,7 @@ public final class DoFinder {
         private final Pile pile = new Pile();
         int count = 0;
         int fuel = FUEL_AT_FIRST;
-        /* How many steps the latest run did. */
+        /* Of the latest run: how many steps, the one at which it was BAD among them. */
         int done = 0;
 
         Library() {
@@ -471,7 +467,9 @@ public final class DoFinder {
             Routine routine = routines[r];
             int at = 0;
             pile.clear();
-            for (done = 0; done < fuel && routine.hasStep(at); done++) {
+            done = 0;
+            for (int n = 0; n < fuel && routine.hasStep(at); n++) {
+                done = n + 1;
                 int step = routine.steps[at];
                 boolean fine;
                 if (step < PLUS) {
@@ -480,8 +478,6 @@ public final class DoFinder {
                     fine = step < TWICE ? pile.reckon(step) : pile.arrange(step);
                 }
                 if (!fine) {
-                    // The step at which it is BAD is done, too.
-                    done++;
                     return BAD;
                 }
                 at = step >= JUMP && pile.taken != 0 ? step - JUMP : at + 1;
@@ -509,13 +505,12 @@ public final class DoFinder {
             return taking;
         }
 
-        boolean takeAlike(int r, int s) {
-            return has(r) && has(s) && routines[r].arguments == routines[s].arguments;
-        }
-
-        /** Of two that take alike; NONE if they are doubles. */
+        /** A place in the world; NONE if they are doubles, KIND if their arguments are unlike. */
         int firstDifference(int r, int s) {
-            int arguments = has(r) ? routines[r].arguments : 1;
+            if (!has(r) || !has(s) || routines[r].arguments != routines[s].arguments) {
+                return KIND;
+            }
+            int arguments = routines[r].arguments;
             int size = World.size(arguments);
             for (int place = 0; place < size; place++) {
                 int a = World.firstAt(arguments, place);
@@ -529,7 +524,7 @@ public final class DoFinder {
         }
 
         boolean areDoubles(int r, int s) {
-            return takeAlike(r, s) && firstDifference(r, s) == NONE;
+            return firstDifference(r, s) == NONE;
         }
 
         int countDoubles() {
@@ -695,22 +690,12 @@ public final class DoFinder {
             return listed;
         }
 
-        int pickFound() {
+        /** Those that are open, or else those that are found. */
+        int pickWays(boolean open) {
             int listed = listWays();
             pickedCount = 0;
             for (int i = 0; i < listed; i++) {
-                if (isFound(ways[i])) {
-                    pick(ways[i]);
-                }
-            }
-            return pickedCount;
-        }
-
-        int pickOpen() {
-            int listed = listWays();
-            pickedCount = 0;
-            for (int i = 0; i < listed; i++) {
-                if (isOpen(ways[i])) {
+                if (open ? isOpen(ways[i]) : isFound(ways[i])) {
                     pick(ways[i]);
                 }
             }
@@ -721,7 +706,8 @@ public final class DoFinder {
             int listed = listWays();
             pickedCount = 0;
             for (int s = 0; s < library.count; s++) {
-                for (int i = 0; i < listed && isBehind(s); i++) {
+                int behind = isBehind(s) ? listed : 0;
+                for (int i = 0; i < behind; i++) {
                     int number = PER_JOINT * (s + 1) + ways[i];
                     if (isFound(number)) {
                         pick(number);

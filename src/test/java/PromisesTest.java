@@ -469,6 +469,10 @@ public final class PromisesTest {
         due("BAD of the second", x.would(40200, 1, 0), BAD);
         due("UNKNOWN of the second", x.would(20200, 1, 0), UNKNOWN);
         due("both", x.would(30300, 5, 0), 4);
+        x.mend(0, 0, 10);
+        due("the least number of a joint", x.would(10000, 5, 0), 5);
+        x.show(5, 0, 6);
+        due("the least number of a joint", x.misses(10000), 1);
         x.limit(5);
         due("FUEL for each: 5 steps and 5", x.would(40300, 5, 0), 0);
         due("FUEL for each: 5 steps and 2", x.would(30300, 5, 0), 4);
@@ -652,6 +656,14 @@ public final class PromisesTest {
         due("changed it is the same", y.parting(2), 2);
         due("two outcomes", y.parting(3), 2);
 
+        DoFinder last = new DoFinder();
+        routine(last, 2, 10, 11, 12);
+        routine(last, 2, 10, 11, 12, 5, 16);
+        last.ask(2);
+        due("the last input parts", last.parting(0), 3);
+        due("the last input parts", last.parting(1), 3);
+        due("two and two", last.parting(2), 2);
+
         DoFinder z = new DoFinder();
         routine(z, 1, 1, 10, 22);
         routine(z, 1, 1, 10, 22);
@@ -760,10 +772,13 @@ public final class PromisesTest {
         due("at -3, -2", x.differ(3, 4), 1);
         due("at 3, -3", x.differ(3, 5), 42);
         due("BAD at -2", x.differ(0, 6), 4);
+        routine(x, 2, 10, 11, 12);
+        routine(x, 2, 10, 11, 12, 5, 16);
+        due("at 3, 3, the last one", x.differ(8, 9), 48);
         due("UNKNOWN at -6", x.differ(7, 7), 0);
         due("UNKNOWN at -6", x.differ(0, 7), 0);
         due("unlike arguments", x.differ(0, 3), KIND);
-        for (int bad : new int[] {-1, 8, 12, MIN, MAX}) {
+        for (int bad : new int[] {-1, 10, 12, MIN, MAX}) {
             due("differ " + bad, x.differ(bad, 3), NUMBER);
             due("differ " + bad, x.differ(3, bad), NUMBER);
         }
