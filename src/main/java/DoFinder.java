@@ -119,11 +119,8 @@ public final class DoFinder {
         if (what == 1) {
             return told.count;
         }
-        // What is far below 0 would go round to a step's number.
-        if (what < 10 || !told.hasStep(what - 10)) {
-            return NUMBER;
-        }
-        return told.steps[what - 10];
+        int at = what - 10;
+        return told.hasStep(at) ? told.steps[at] : NUMBER;
     }
 
     public long run(int routine, int a, int b) {

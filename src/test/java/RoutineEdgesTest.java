@@ -363,6 +363,21 @@ public final class RoutineEdgesTest {
         due("empty behind the last one: steps", x.fuel(1, 5, 0), 4);
     }
 
+    @Checks.Says("UNKNOWN if more than FUEL STEPS would be done, though the next one would be BAD")
+    static void badBehindTheLastOfFuel() {
+        int[][] bad = {{1, 20, 20}, {1, 20, 21}, {1, 20, 18}, {1, 1, 20, 12}, {1, 1, 20, 19}, {1, 0, 15},
+            Checks.join(EIGHT, 9), Checks.join(EIGHT, 18), Checks.join(EIGHT, 10)};
+        for (int[] steps : bad) {
+            DoFinder x = holding(1, steps);
+            x.limit(steps.length);
+            due("the last step " + steps[steps.length - 1], x.run(0, 5, 0), BAD);
+            due("all are done", x.fuel(0, 5, 0), steps.length);
+            x.limit(steps.length - 1);
+            due("one short", x.run(0, 5, 0), UNKNOWN);
+            due("one short: FUEL", x.fuel(0, 5, 0), steps.length - 1);
+        }
+    }
+
     // ---- promises 1 to 9
 
     @Checks.Says("DoFinder(): No ROUTINES; an ASK of 1 ARGUMENT without EXAMPLES; no STEPS are written.")
@@ -579,6 +594,7 @@ public final class RoutineEdgesTest {
     static void mendFirstAndLast() {
         DoFinder x = withRoutines(11);
         Checks.routine(x, 2, 0, 1, 2, 3, 4, 5, 6, 7, 20, 20, 20, 9);
+        Checks.write(x, 1, 2, 3);
         due("the first routine", x.mend(0, 0, 0), 10);
         due("the first step of the last one", x.mend(11, 0, 32), 0);
         due("the last step of the last one", x.mend(11, 11, 0), 9);
@@ -588,6 +604,7 @@ public final class RoutineEdgesTest {
         due("the second one stays", x.of(11, 11), 1);
         due("the first routine runs so", x.run(0, 5, 5), 0);
         due("the second routine stays", x.run(1, 5, 5), 5);
+        due("what is written stays", x.many(8), 3);
     }
 
     @Checks.Says("mend: NUMBER: there is no such ROUTINE")

@@ -171,6 +171,8 @@ public final class WorldEdgesTest {
         Checks.routine(x, 1, 1);
         due("UNKNOWN at the first", x.like(0, 1), 1);
         due("all meet ANY", x.many(3), 4);
+        due("it is an example", x.many(1), 1);
+        due("the next one is number 1", x.leave(1, 0, true), 1);
         due("BAD at the first", x.like(1, 1), 1);
         due("one is BAD there", x.found(0), 100);
         due("one may be", x.open(0), 0);
@@ -179,6 +181,11 @@ public final class WorldEdgesTest {
         due("found", x.found(0), 200);
         due("found", x.found(1), 300);
         due("BAD misses", x.misses(100), 1);
+        DoFinder endless = two(2, steps(1, 21), 5);
+        due("UNKNOWN at all 8", endless.like(0, 8), 8);
+        due("8 examples", endless.many(1), 8);
+        due("no room for a ninth", endless.show(1, 1, 5), Checks.FULL);
+        due("all meet ANY", endless.many(3), 4);
     }
 
     @Checks.Says("like: THE ASK becomes a ROUTINE's own: an ASK of as many ARGUMENTS")
@@ -274,10 +281,10 @@ public final class WorldEdgesTest {
         DoFinder alone = new DoFinder();
         Checks.routine(alone, 1, 10);
         parts(alone, -6, 0, 1, 1);
-        // More unlike outcomes don't count: at -6 there are 2 and 2, at 5 there are 2, 1 and 1.
+        // More unlike outcomes don't count: at -6 there are 2 and 2, at 4 there are 2, 1 and 1.
         DoFinder z = two(1, oneAt(-6), oneAt(-6));
-        Checks.routine(z, 1, 0);
-        Checks.routine(z, 1, 10, 5, 13, 0, 17, 2, 14);
+        Checks.routine(z, 1, oneAt(4));
+        Checks.routine(z, 1, 10, 0, 17);
         parts(z, -6, 0, 2, 2);
     }
 
