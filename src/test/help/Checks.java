@@ -247,7 +247,12 @@ final class Checks {
     /** The call is refused with that answer, and later calls answer as if it had not been made. */
     static void refused(State state, String call, ToLongFunction<DoFinder> refusal, long want) {
         String where = call + " on " + state;
-        due(where, refusal.applyAsLong(state.make()), want);
+        long answer = refusal.applyAsLong(state.make());
+        due(where, answer, want);
+        // A call that was taken changes something as it should: a FUEL far too great would let the rest run on and on.
+        if (answer != want) {
+            return;
+        }
         for (int t = 0; t < TELLERS.size(); t++) {
             DoFinder x = state.make();
             refusal.applyAsLong(x);
