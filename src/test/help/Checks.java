@@ -10,7 +10,7 @@ import java.util.function.Function;
 import java.util.function.Supplier;
 import java.util.function.ToLongFunction;
 
-/** What the tests of the edges share: sentences to test, answers that are due, and refused calls that change nothing. */
+/** What the tests of the edges share: sentences to test, answers that are due, refused calls that change nothing. */
 final class Checks {
     /** The sentence of the document that a test is for. */
     @Retention(RetentionPolicy.RUNTIME)

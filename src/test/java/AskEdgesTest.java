@@ -271,7 +271,8 @@ public final class AskEdgesTest {
     }
 
     /**
-     * Down to 0 and then 9, in 4 + 4 a steps; down to 0 in 23 + 4 a; BAD; for ever; 1 divided by it; 6 in 4 steps; 9 in 1.
+     * Down to 0 and then 9, in 4 + 4 a steps; down to 0 in 23 + 4 a; BAD; for ever; 1 divided by it; 6 in 4 steps;
+     * 9 in 1.
      */
     private static DoFinder burners() {
         DoFinder x = new DoFinder();
