@@ -244,10 +244,10 @@ final class Checks {
         return TOLD.get(state);
     }
 
-    /** The call is refused with that answer, and later calls answer as if it had not been made. */
-    static void refused(State state, String call, ToLongFunction<DoFinder> refusal, long want) {
+    /** The call answers so, and later calls answer as if it had not been made. */
+    static void leavesAll(State state, String call, ToLongFunction<DoFinder> made, long want) {
         String where = call + " on " + state;
-        long answer = refusal.applyAsLong(state.make());
+        long answer = made.applyAsLong(state.make());
         due(where, answer, want);
         // A call that was taken changes something as it should: a FUEL far too great would let the rest run on and on.
         if (answer != want) {
@@ -255,7 +255,7 @@ final class Checks {
         }
         for (int t = 0; t < TELLERS.size(); t++) {
             DoFinder x = state.make();
-            refusal.applyAsLong(x);
+            made.applyAsLong(x);
             List<Long> got = TELLERS.get(t).apply(x);
             List<Long> told = told(state).get(t);
             for (int n = 0; n < told.size(); n++) {
@@ -266,6 +266,11 @@ final class Checks {
             }
             checked++;
         }
+    }
+
+    /** The call is refused with that answer, and changes nothing. */
+    static void refused(State state, String call, ToLongFunction<DoFinder> refusal, long want) {
+        leavesAll(state, call, refusal, want);
     }
 
     static void refused(String call, ToLongFunction<DoFinder> refusal, long want) {

@@ -240,7 +240,8 @@ public final class ModelTest {
             int way = number % 10000;
             int behind = number / 10000 - 1;
             Input handed = handed(way, new Input(a, b));
-            if (number < 0 || handed == null || behind >= 0 && (!isRoutine(behind) || routines.get(behind).arguments != 1)) {
+            boolean unfit = behind >= 0 && (!isRoutine(behind) || routines.get(behind).arguments != 1);
+            if (number < 0 || handed == null || unfit) {
                 return NOTHING;
             }
             long outcome = run(routines.get(way / 100), handed.a, handed.b)[0];
@@ -514,7 +515,8 @@ public final class ModelTest {
             case "of" -> new int[] {r, number(random, 23), 0};
             case "run", "fuel" -> new int[] {r, i, j};
             case "limit" -> new int[] {random.nextInt(2) == 0 ? number(random, 12) : number(random, 201), 0, 0};
-            case "show" -> new int[] {i, j, random.nextInt(3) == 0 ? i : random.nextInt(2) == 0 ? i + j : input(random)};
+            case "show" -> new int[] {i, j,
+                random.nextInt(3) == 0 ? i : random.nextInt(2) == 0 ? i + j : input(random)};
             case "leave" -> new int[] {i, j, random.nextInt(2)};
             case "like" -> new int[] {r, number(random, 8), 0};
             case "would", "misses" -> new int[] {wayOrJoint(random, model), i, j};

@@ -1,52 +1,21 @@
 // The promises one by one: ordinary inputs, the edges that the document names, and wrong inputs.
 public final class PromisesTest {
-    private static final int NUMBER = -1;
-    private static final int FULL = -2;
-    private static final int NONE = -3;
-    private static final int KIND = -4;
-    private static final long BAD = 1099511627776L;
-    private static final long UNKNOWN = 2199023255552L;
-    private static final long NOTHING = 3298534883328L;
-    private static final int MIN = Integer.MIN_VALUE;
-    private static final int MAX = Integer.MAX_VALUE;
-
-    private static int wrong = 0;
-    private static int checked = 0;
-    private static String where = "";
+    private static final int NUMBER = Checks.NUMBER;
+    private static final int FULL = Checks.FULL;
+    private static final int NONE = Checks.NONE;
+    private static final int KIND = Checks.KIND;
+    private static final long BAD = Checks.BAD;
+    private static final long UNKNOWN = Checks.UNKNOWN;
+    private static final long NOTHING = Checks.NOTHING;
+    private static final int MIN = Checks.MIN;
+    private static final int MAX = Checks.MAX;
 
     private static void due(String call, long got, long want) {
-        checked++;
-        if (got != want) {
-            wrong++;
-            System.out.println(where + ": " + call + " answered " + got + ", due is " + want);
-        }
+        Checks.due(call, got, want);
     }
 
-    private static void write(DoFinder x, int... steps) {
-        for (int step : steps) {
-            x.step(step);
-        }
-    }
-
-    private static int routine(DoFinder x, int arguments, int... steps) {
-        write(x, steps);
-        return x.add(arguments);
-    }
-
-    /** What steps answer as a routine of 2 in an object of its own. */
-    private static long ran(int a, int b, int... steps) {
-        DoFinder x = new DoFinder();
-        routine(x, 2, steps);
-        return x.run(0, a, b);
-    }
-
-    private static int burnt(int a, int b, int... steps) {
-        DoFinder x = new DoFinder();
-        routine(x, 2, steps);
-        return x.fuel(0, a, b);
-    }
-
-    private static void constants() {
+    @Checks.Says("the constants")
+    static void constants() {
         due("NUMBER", DoFinder.NUMBER, NUMBER);
         due("FULL", DoFinder.FULL, FULL);
         due("NONE", DoFinder.NONE, NONE);
@@ -56,7 +25,8 @@ public final class PromisesTest {
         due("NOTHING", DoFinder.NOTHING, NOTHING);
     }
 
-    private static void promise1New() {
+    @Checks.Says("promise 1")
+    static void promise1New() {
         DoFinder x = new DoFinder();
         for (int what = 0; what <= 8; what++) {
             due("many " + what, x.many(what), 0);
@@ -68,11 +38,12 @@ public final class PromisesTest {
         due("run", x.run(0, 1, 1), NOTHING);
         due("FUEL at first", x.limit(60), 60);
         DoFinder y = new DoFinder();
-        routine(y, 1, 10);
+        Checks.routine(y, 1, 10);
         due("another object is apart", x.many(0), 0);
     }
 
-    private static void promise2Step() {
+    @Checks.Says("promise 2")
+    static void promise2Step() {
         DoFinder x = new DoFinder();
         for (int step = 0; step <= 32; step++) {
             due("step " + step, x.step(step), 1);
@@ -90,10 +61,11 @@ public final class PromisesTest {
         due("12 are written", x.many(8), 12);
     }
 
-    private static void promise3Scrap() {
+    @Checks.Says("promise 3")
+    static void promise3Scrap() {
         DoFinder x = new DoFinder();
         due("scrap of none", x.scrap(), 0);
-        write(x, 1, 2, 3);
+        Checks.write(x, 1, 2, 3);
         due("scrap", x.scrap(), 3);
         due("scrap again", x.scrap(), 0);
         due("add", x.add(1), NONE);
@@ -103,30 +75,31 @@ public final class PromisesTest {
         due("the new step", x.of(0, 10), 7);
     }
 
-    private static void promise4Add() {
+    @Checks.Says("promise 4")
+    static void promise4Add() {
         DoFinder x = new DoFinder();
         for (int bad : new int[] {0, 3, -1, MIN, MAX}) {
             due("add " + bad, x.add(bad), NUMBER);
         }
         due("nothing written", x.add(2), NONE);
-        write(x, 10, 11, 12);
+        Checks.write(x, 10, 11, 12);
         due("argument 1 of a routine of 1", x.add(1), KIND);
         due("it stays written", x.many(8), 3);
         due("add of 2", x.add(2), 0);
         due("nothing is written then", x.many(8), 0);
         due("arguments", x.of(0, 0), 2);
-        write(x, 10, 23);
+        Checks.write(x, 10, 23);
         due("goes on behind the last step", x.add(1), KIND);
         due("NUMBER is named before KIND", x.add(3), NUMBER);
         x.step(1);
         due("the step it goes on with is there now", x.add(1), 1);
-        write(x, 10, 32);
+        Checks.write(x, 10, 32);
         due("step 11 isn't there", x.add(2), KIND);
         x.scrap();
-        due("goes on with itself", routine(x, 1, 21), 2);
-        due("12 steps", routine(x, 1, 32, 0, 0, 0, 0, 0, 0, 0, 0, 0, 0, 0), 3);
+        due("goes on with itself", Checks.routine(x, 1, 21), 2);
+        due("12 steps", Checks.routine(x, 1, 32, 0, 0, 0, 0, 0, 0, 0, 0, 0, 0, 0), 3);
         for (int r = 4; r < 12; r++) {
-            due("routine " + r, routine(x, 1 + r % 2, 10), r);
+            due("routine " + r, Checks.routine(x, 1 + r % 2, 10), r);
         }
         due("NUMBER is named before FULL", x.add(0), NUMBER);
         due("NONE is named before FULL", x.add(1), NONE);
@@ -137,11 +110,12 @@ public final class PromisesTest {
         due("12 routines", x.many(0), 12);
     }
 
-    private static void promise5Mend() {
+    @Checks.Says("promise 5")
+    static void promise5Mend() {
         DoFinder x = new DoFinder();
         due("no routine", x.mend(0, 0, 1), NUMBER);
-        routine(x, 1, 10, 2, 14);
-        routine(x, 2, 10, 11, 12);
+        Checks.routine(x, 1, 10, 2, 14);
+        Checks.routine(x, 2, 10, 11, 12);
         due("mend", x.mend(0, 1, 5), 2);
         due("its new step", x.of(0, 11), 5);
         due("run", x.run(0, 4, 0), 20);
@@ -162,15 +136,16 @@ public final class PromisesTest {
         due("step 3 isn't there", x.mend(0, 2, 24), KIND);
         due("step 2 is", x.mend(0, 2, 23), 14);
         due("what was refused changes nothing", x.of(0, 10), 10);
-        write(x, 1, 2, 3, 4);
+        Checks.write(x, 1, 2, 3, 4);
         due("what is written doesn't count", x.mend(0, 0, 24), KIND);
         due("what is written stays", x.many(8), 4);
     }
 
-    private static void promise6Of() {
+    @Checks.Says("promise 6")
+    static void promise6Of() {
         DoFinder x = new DoFinder();
         due("no routine", x.of(0, 0), NUMBER);
-        routine(x, 2, 9, 11, 15, 20, 32 - 7);
+        Checks.routine(x, 2, 9, 11, 15, 20, 32 - 7);
         due("arguments", x.of(0, 0), 2);
         due("steps", x.of(0, 1), 5);
         int[] steps = {9, 11, 15, 20, 25};
@@ -183,69 +158,71 @@ public final class PromisesTest {
         for (int bad : new int[] {-1, 1, 12, MIN, MAX}) {
             due("routine " + bad, x.of(bad, 0), NUMBER);
         }
-        due("of 1", routine(x, 1, 3), 1);
+        due("of 1", Checks.routine(x, 1, 3), 1);
         due("arguments", x.of(1, 0), 1);
     }
 
-    private static void promise7RunSteps() {
+    @Checks.Says("promise 7")
+    static void promise7RunSteps() {
         for (int n = 0; n <= 9; n++) {
-            due("the number " + n, ran(5, 6, n), n);
+            due("the number " + n, Checks.ran(5, 6, n), n);
         }
-        due("argument 0", ran(5, 6, 10), 5);
-        due("argument 1", ran(5, 6, 11), 6);
-        due("12", ran(5, 6, 10, 11, 12), 11);
-        due("13", ran(5, 6, 10, 11, 13), -1);
-        due("14", ran(5, 6, 10, 11, 14), 30);
-        due("15", ran(17, 5, 10, 11, 15), 3);
-        due("15 cuts towards 0", ran(-17, 5, 10, 11, 15), -3);
-        due("15 cuts towards 0", ran(17, -5, 10, 11, 15), -3);
-        due("16", ran(5, 6, 10, 11, 16), 5);
-        due("16", ran(6, 5, 10, 11, 16), 5);
-        due("17", ran(5, 6, 10, 11, 17), 6);
-        due("17", ran(6, 5, 10, 11, 17), 6);
-        due("18", ran(5, 6, 10, 18, 14), 25);
-        due("19", ran(5, 6, 10, 11, 19, 13), 1);
-        due("20", ran(5, 6, 10, 11, 20), 5);
-        due("21 to 32 go on elsewhere", ran(5, 6, 7, 10, 25, 8, 9), 9);
-        due("they do so for what is below 0", ran(-5, 6, 7, 10, 25, 8, 9, 20), 7);
-        due("or with the next one", ran(0, 6, 7, 10, 25, 20, 9, 12), BAD);
-        due("they take it off", ran(5, 6, 7, 10, 24, 3), 3);
-        due("what is below the top counts nothing", ran(5, 6, 1, 2, 3), 3);
-        due("they go round: +", ran(MAX, 1, 10, 11, 12), MIN);
-        due("they go round: -", ran(MIN, 1, 10, 11, 13), MAX);
-        due("they go round: times", ran(MAX, 2, 10, 11, 14), -2);
-        due("they go round: /", ran(MIN, -1, 10, 11, 15), MIN);
+        due("argument 0", Checks.ran(5, 6, 10), 5);
+        due("argument 1", Checks.ran(5, 6, 11), 6);
+        due("12", Checks.ran(5, 6, 10, 11, 12), 11);
+        due("13", Checks.ran(5, 6, 10, 11, 13), -1);
+        due("14", Checks.ran(5, 6, 10, 11, 14), 30);
+        due("15", Checks.ran(17, 5, 10, 11, 15), 3);
+        due("15 cuts towards 0", Checks.ran(-17, 5, 10, 11, 15), -3);
+        due("15 cuts towards 0", Checks.ran(17, -5, 10, 11, 15), -3);
+        due("16", Checks.ran(5, 6, 10, 11, 16), 5);
+        due("16", Checks.ran(6, 5, 10, 11, 16), 5);
+        due("17", Checks.ran(5, 6, 10, 11, 17), 6);
+        due("17", Checks.ran(6, 5, 10, 11, 17), 6);
+        due("18", Checks.ran(5, 6, 10, 18, 14), 25);
+        due("19", Checks.ran(5, 6, 10, 11, 19, 13), 1);
+        due("20", Checks.ran(5, 6, 10, 11, 20), 5);
+        due("21 to 32 go on elsewhere", Checks.ran(5, 6, 7, 10, 25, 8, 9), 9);
+        due("they do so for what is below 0", Checks.ran(-5, 6, 7, 10, 25, 8, 9, 20), 7);
+        due("or with the next one", Checks.ran(0, 6, 7, 10, 25, 20, 9, 12), BAD);
+        due("they take it off", Checks.ran(5, 6, 7, 10, 24, 3), 3);
+        due("what is below the top counts nothing", Checks.ran(5, 6, 1, 2, 3), 3);
+        due("they go round: +", Checks.ran(MAX, 1, 10, 11, 12), MIN);
+        due("they go round: -", Checks.ran(MIN, 1, 10, 11, 13), MAX);
+        due("they go round: times", Checks.ran(MAX, 2, 10, 11, 14), -2);
+        due("they go round: /", Checks.ran(MIN, -1, 10, 11, 15), MIN);
     }
 
-    private static void promise7RunOutcomes() {
-        due("divides by 0", ran(5, 0, 10, 11, 15), BAD);
+    @Checks.Says("promise 7")
+    static void promise7RunOutcomes() {
+        due("divides by 0", Checks.ran(5, 0, 10, 11, 15), BAD);
         for (int step = 12; step <= 17; step++) {
-            due(step + " needs two", ran(5, 6, 1, step), BAD);
-            due(step + " needs two, has none", ran(5, 6, step), BAD);
+            due(step + " needs two", Checks.ran(5, 6, 1, step), BAD);
+            due(step + " needs two, has none", Checks.ran(5, 6, step), BAD);
         }
-        due("18 needs one", ran(5, 6, 18), BAD);
-        due("19 needs two", ran(5, 6, 1, 19), BAD);
-        due("20 needs one", ran(5, 6, 20, 1), BAD);
-        due("21 needs one", ran(5, 6, 21, 1), BAD);
-        due("empty at the end", ran(5, 6, 10, 20), BAD);
-        due("8 on the pile", ran(5, 6, 1, 2, 3, 4, 5, 6, 7, 8), 8);
-        due("9 on the pile", ran(5, 6, 1, 2, 3, 4, 5, 6, 7, 8, 9), BAD);
-        due("9 by 18", ran(5, 6, 1, 2, 3, 4, 5, 6, 7, 8, 18), BAD);
-        due("9 by an argument, taken off later", ran(5, 6, 1, 2, 3, 4, 5, 6, 7, 8, 10, 20), BAD);
-        due("runs for ever", ran(5, 6, 1, 21), UNKNOWN);
+        due("18 needs one", Checks.ran(5, 6, 18), BAD);
+        due("19 needs two", Checks.ran(5, 6, 1, 19), BAD);
+        due("20 needs one", Checks.ran(5, 6, 20, 1), BAD);
+        due("21 needs one", Checks.ran(5, 6, 21, 1), BAD);
+        due("empty at the end", Checks.ran(5, 6, 10, 20), BAD);
+        due("8 on the pile", Checks.ran(5, 6, 1, 2, 3, 4, 5, 6, 7, 8), 8);
+        due("9 on the pile", Checks.ran(5, 6, 1, 2, 3, 4, 5, 6, 7, 8, 9), BAD);
+        due("9 by 18", Checks.ran(5, 6, 1, 2, 3, 4, 5, 6, 7, 8, 18), BAD);
+        due("9 by an argument, taken off later", Checks.ran(5, 6, 1, 2, 3, 4, 5, 6, 7, 8, 10, 20), BAD);
+        due("runs for ever", Checks.ran(5, 6, 1, 21), UNKNOWN);
 
         DoFinder x = new DoFinder();
-        routine(x, 1, 1, 2, 12);
+        Checks.routine(x, 1, 1, 2, 12);
         due("of 1", x.run(0, 5, 99), 3);
         x.limit(3);
         due("FUEL is just enough", x.run(0, 5, 0), 3);
         x.limit(2);
         due("FUEL is one short", x.run(0, 5, 0), UNKNOWN);
-        routine(x, 1, 1, 12, 1);
+        Checks.routine(x, 1, 1, 12, 1);
         due("BAD at the last that FUEL allows", x.run(1, 0, 0), BAD);
         x.limit(1);
         due("it would be BAD one later", x.run(1, 0, 0), UNKNOWN);
-        routine(x, 1, 1, 20);
+        Checks.routine(x, 1, 1, 20);
         due("it would be empty at the end one later", x.run(2, 0, 0), UNKNOWN);
         x.limit(2);
         due("it is empty at the end", x.run(2, 0, 0), BAD);
@@ -254,17 +231,18 @@ public final class PromisesTest {
         }
     }
 
-    private static void promise8Fuel() {
-        due("a straight one", burnt(5, 6, 10, 11, 12), 3);
-        due("BAD at the second one", burnt(5, 6, 1, 12, 1), 2);
-        due("BAD by division", burnt(5, 0, 10, 11, 15, 1, 1), 3);
-        due("empty at the end", burnt(5, 6, 1, 20), 2);
-        due("goes over one", burnt(5, 6, 7, 10, 25, 8, 9), 4);
-        due("doesn't", burnt(0, 6, 7, 10, 25, 8, 9), 5);
-        due("runs for ever", burnt(5, 6, 1, 21), 60);
+    @Checks.Says("promise 8")
+    static void promise8Fuel() {
+        due("a straight one", Checks.burnt(5, 6, 10, 11, 12), 3);
+        due("BAD at the second one", Checks.burnt(5, 6, 1, 12, 1), 2);
+        due("BAD by division", Checks.burnt(5, 0, 10, 11, 15, 1, 1), 3);
+        due("empty at the end", Checks.burnt(5, 6, 1, 20), 2);
+        due("goes over one", Checks.burnt(5, 6, 7, 10, 25, 8, 9), 4);
+        due("doesn't", Checks.burnt(0, 6, 7, 10, 25, 8, 9), 5);
+        due("runs for ever", Checks.burnt(5, 6, 1, 21), 60);
         DoFinder x = new DoFinder();
-        routine(x, 1, 1, 21);
-        routine(x, 1, 1, 2, 3, 20);
+        Checks.routine(x, 1, 1, 21);
+        Checks.routine(x, 1, 1, 2, 3, 20);
         x.limit(200);
         due("FUEL", x.fuel(0, 0, 0), 200);
         x.limit(4);
@@ -276,7 +254,8 @@ public final class PromisesTest {
         }
     }
 
-    private static void promise9Limit() {
+    @Checks.Says("promise 9")
+    static void promise9Limit() {
         DoFinder x = new DoFinder();
         due("at first", x.limit(1), 60);
         due("then", x.limit(200), 1);
@@ -287,7 +266,8 @@ public final class PromisesTest {
         due("then", x.limit(7), 7);
     }
 
-    private static void promise10Ask() {
+    @Checks.Says("promise 10")
+    static void promise10Ask() {
         DoFinder x = new DoFinder();
         due("ask 2", x.ask(2), 0);
         due("its arguments", x.many(9), 2);
@@ -304,9 +284,10 @@ public final class PromisesTest {
         due("ask 1 again", x.ask(1), 0);
     }
 
-    private static void promise11Show() {
+    @Checks.Says("promise 11")
+    static void promise11Show() {
         DoFinder x = new DoFinder();
-        routine(x, 2, 10, 11, 13);
+        Checks.routine(x, 2, 10, 11, 13);
         x.ask(2);
         due("show", x.show(9, 4, 5), 0);
         due("it is met", x.misses(0), 0);
@@ -320,17 +301,18 @@ public final class PromisesTest {
         due("8 examples", x.many(1), 8);
         due("met where they go round", x.misses(0), 1);
         DoFinder y = new DoFinder();
-        routine(y, 1, 10);
+        Checks.routine(y, 1, 10);
         due("of an ask of 1", y.show(3, 77, 3), 0);
         due("b counts nothing", y.found(0), 0);
         due("an answer far off", y.show(MIN, 77, MIN), 1);
         due("found still", y.found(0), 0);
     }
 
-    private static void promise12Leave() {
+    @Checks.Says("promise 12")
+    static void promise12Leave() {
         DoFinder x = new DoFinder();
-        routine(x, 1, 1, 10, 15);
-        routine(x, 1, 10);
+        Checks.routine(x, 1, 1, 10, 15);
+        Checks.routine(x, 1, 10);
         due("leave BAD", x.leave(0, 5, false), 0);
         due("the one that divides", x.found(0), 0);
         due("no other one", x.found(1), NONE);
@@ -351,10 +333,11 @@ public final class PromisesTest {
         due("8 examples", x.many(1), 8);
     }
 
-    private static void promise13Drop() {
+    @Checks.Says("promise 13")
+    static void promise13Drop() {
         DoFinder x = new DoFinder();
         due("none", x.drop(), NONE);
-        routine(x, 1, 10);
+        Checks.routine(x, 1, 10);
         x.show(1, 0, 1);
         x.show(2, 0, 3);
         due("not found", x.found(0), NONE);
@@ -367,14 +350,15 @@ public final class PromisesTest {
         due("none any more", x.drop(), NONE);
     }
 
-    private static void promise14Like() {
+    @Checks.Says("promise 14")
+    static void promise14Like() {
         DoFinder x = new DoFinder();
         due("no routine", x.like(0, 1), NUMBER);
-        routine(x, 2, 10);
-        routine(x, 2, 11);
-        routine(x, 1, 0, 3, 13);
-        routine(x, 1, 0, 2, 13);
-        routine(x, 1, 10);
+        Checks.routine(x, 2, 10);
+        Checks.routine(x, 2, 11);
+        Checks.routine(x, 1, 0, 3, 13);
+        Checks.routine(x, 1, 0, 2, 13);
+        Checks.routine(x, 1, 10);
         due("like argument 0 of 2", x.like(0, 8), 8);
         due("an ask of 2", x.many(9), 2);
         due("it finds itself", x.found(0), 0);
@@ -406,11 +390,12 @@ public final class PromisesTest {
         due("an ask of 1", x.many(9), 1);
     }
 
-    private static void promise14LikeOutcomes() {
+    @Checks.Says("promise 14")
+    static void promise14LikeOutcomes() {
         DoFinder x = new DoFinder();
-        routine(x, 1, 1, 10, 6, 12, 15);
-        routine(x, 1, 1, 10, 22);
-        routine(x, 1, 7);
+        Checks.routine(x, 1, 1, 10, 6, 12, 15);
+        Checks.routine(x, 1, 1, 10, 22);
+        Checks.routine(x, 1, 7);
         due("like one that divides by 0 at -6", x.like(0, 1), 1);
         due("BAD is due there", x.found(0), 0);
         due("only it is BAD there", x.found(1), NONE);
@@ -426,11 +411,12 @@ public final class PromisesTest {
         due("though the routine is mended", x.misses(200), 2);
     }
 
-    private static void promise15Would() {
+    @Checks.Says("promise 15")
+    static void promise15Would() {
         DoFinder x = new DoFinder();
         due("no routines", x.would(0, 1, 1), NOTHING);
-        routine(x, 2, 10, 11, 13);
-        routine(x, 1, 10, 2, 14);
+        Checks.routine(x, 2, 10, 11, 13);
+        Checks.routine(x, 1, 10, 2, 14);
         due("3 - a", x.would(13, 10, 99), -7);
         due("0 - a", x.would(10, 10, 99), -10);
         due("9 - a", x.would(19, 10, 99), -1);
@@ -456,12 +442,13 @@ public final class PromisesTest {
         }
     }
 
-    private static void promise15WouldJoints() {
+    @Checks.Says("promise 15")
+    static void promise15WouldJoints() {
         DoFinder x = new DoFinder();
-        routine(x, 1, 12);
-        routine(x, 1, 1, 21);
-        routine(x, 1, 10, 4);
-        routine(x, 1, 1, 10, 4, 13, 15);
+        Checks.routine(x, 1, 12);
+        Checks.routine(x, 1, 1, 21);
+        Checks.routine(x, 1, 10, 4);
+        Checks.routine(x, 1, 1, 10, 4, 13, 15);
         due("BAD of the first", x.would(30000, 1, 0), BAD);
         due("UNKNOWN of the first", x.would(30100, 1, 0), UNKNOWN);
         due("UNKNOWN of the first behind BAD", x.would(10100, 1, 0), UNKNOWN);
@@ -484,14 +471,15 @@ public final class PromisesTest {
     /** Square, product, sum, and twice. */
     private static DoFinder four() {
         DoFinder x = new DoFinder();
-        routine(x, 1, 10, 10, 14);
-        routine(x, 2, 10, 11, 14);
-        routine(x, 2, 10, 11, 12);
-        routine(x, 1, 10, 2, 14);
+        Checks.routine(x, 1, 10, 10, 14);
+        Checks.routine(x, 2, 10, 11, 14);
+        Checks.routine(x, 2, 10, 11, 12);
+        Checks.routine(x, 1, 10, 2, 14);
         return x;
     }
 
-    private static void promise16Found() {
+    @Checks.Says("promise 16")
+    static void promise16Found() {
         DoFinder x = four();
         due("without examples the first way", x.found(0), 0);
         due("the second one", x.found(1), 110);
@@ -519,12 +507,13 @@ public final class PromisesTest {
         due("UNKNOWN is not found", x.found(0), NONE);
     }
 
-    private static void promise17Open() {
+    @Checks.Says("promise 17")
+    static void promise17Open() {
         DoFinder x = new DoFinder();
-        routine(x, 1, 1, 10, 22);
-        routine(x, 1, 1);
-        routine(x, 1, 1, 21);
-        routine(x, 1, 2, 10, 22);
+        Checks.routine(x, 1, 1, 10, 22);
+        Checks.routine(x, 1, 1);
+        Checks.routine(x, 1, 1, 21);
+        Checks.routine(x, 1, 2, 10, 22);
         due("without examples none is open", x.open(0), NONE);
         x.show(0, 0, 1);
         x.show(5, 0, 1);
@@ -547,11 +536,12 @@ public final class PromisesTest {
         due("it may be BAD", x.open(2), 300);
     }
 
-    private static void promise18Joint() {
+    @Checks.Says("promise 18")
+    static void promise18Joint() {
         DoFinder x = new DoFinder();
-        routine(x, 1, 10, 1, 12);
-        routine(x, 2, 10, 11, 14);
-        routine(x, 1, 0, 10, 13);
+        Checks.routine(x, 1, 10, 1, 12);
+        Checks.routine(x, 2, 10, 11, 14);
+        Checks.routine(x, 1, 0, 10, 13);
         due("without examples all, the first", x.joint(0), 10000);
         due("by the numbers", x.joint(1), 10110);
         due("by the numbers", x.joint(21), 10200);
@@ -578,13 +568,14 @@ public final class PromisesTest {
         due("UNKNOWN is not found", x.joint(0), NONE);
     }
 
-    private static void promise19Near() {
+    @Checks.Says("promise 19")
+    static void promise19Near() {
         DoFinder x = new DoFinder();
-        routine(x, 1, 1);
-        routine(x, 1, 10);
-        routine(x, 1, 10, 10, 14);
-        routine(x, 1, 1, 21);
-        routine(x, 1, 0);
+        Checks.routine(x, 1, 1);
+        Checks.routine(x, 1, 10);
+        Checks.routine(x, 1, 10, 10, 14);
+        Checks.routine(x, 1, 1, 21);
+        Checks.routine(x, 1, 0);
         due("without examples none", x.near(0), NONE);
         x.show(1, 0, 1);
         x.show(2, 0, 4);
@@ -604,7 +595,8 @@ public final class PromisesTest {
         due("no other one", x.near(3), NONE);
     }
 
-    private static void promise20Misses() {
+    @Checks.Says("promise 20")
+    static void promise20Misses() {
         DoFinder x = four();
         x.show(2, 0, 4);
         x.show(3, 0, 9);
@@ -630,11 +622,12 @@ public final class PromisesTest {
         due("no way of an ask of 2", x.misses(212), NUMBER);
     }
 
-    private static void promise21Parting() {
+    @Checks.Says("promise 21")
+    static void promise21Parting() {
         DoFinder x = new DoFinder();
         due("nothing is found", x.parting(0), -1000);
-        routine(x, 1, 10);
-        routine(x, 1, 10, 5, 16);
+        Checks.routine(x, 1, 10);
+        Checks.routine(x, 1, 10, 5, 16);
         x.show(1, 0, 1);
         due("they part at 6 only", x.parting(0), 6);
         due("the second one of an ask of 1", x.parting(1), 0);
@@ -647,8 +640,8 @@ public final class PromisesTest {
         due("nothing is found", x.parting(2), -1000);
 
         DoFinder y = new DoFinder();
-        routine(y, 2, 10);
-        routine(y, 2, 10, 11, 17);
+        Checks.routine(y, 2, 10);
+        Checks.routine(y, 2, 10, 11, 17);
         y.ask(2);
         y.show(1, 0, 1);
         due("the first that parts", y.parting(0), -3);
@@ -657,30 +650,31 @@ public final class PromisesTest {
         due("two outcomes", y.parting(3), 2);
 
         DoFinder last = new DoFinder();
-        routine(last, 2, 10, 11, 12);
-        routine(last, 2, 10, 11, 12, 5, 16);
+        Checks.routine(last, 2, 10, 11, 12);
+        Checks.routine(last, 2, 10, 11, 12, 5, 16);
         last.ask(2);
         due("the last input parts", last.parting(0), 3);
         due("the last input parts", last.parting(1), 3);
         due("two and two", last.parting(2), 2);
 
         DoFinder z = new DoFinder();
-        routine(z, 1, 1, 10, 22);
-        routine(z, 1, 1, 10, 22);
-        routine(z, 1, 1);
-        routine(z, 1, 1, 1, 10, 5, 12, 15, 20);
+        Checks.routine(z, 1, 1, 10, 22);
+        Checks.routine(z, 1, 1, 10, 22);
+        Checks.routine(z, 1, 1);
+        Checks.routine(z, 1, 1, 1, 10, 5, 12, 15, 20);
         z.show(0, 0, 1);
         due("all four are found", z.many(3), 4);
         due("at -5 it is no better", z.parting(0), -6);
         due("two UNKNOWN, two of 1", z.parting(2), 2);
         due("two outcomes at -6", z.parting(3), 2);
-        routine(z, 1, 1);
+        Checks.routine(z, 1, 1);
         due("three of 1 but at -5", z.parting(0), -5);
         due("two UNKNOWN, two of 1, one BAD", z.parting(2), 2);
         due("three outcomes", z.parting(3), 3);
     }
 
-    private static void promise22Many() {
+    @Checks.Says("promise 22")
+    static void promise22Many() {
         DoFinder x = four();
         x.step(1);
         x.step(2);
@@ -706,11 +700,12 @@ public final class PromisesTest {
         due("none is found", x.many(6), 0);
     }
 
-    private static void promise22ManyAtMost() {
+    @Checks.Says("promise 22")
+    static void promise22ManyAtMost() {
         DoFinder x = new DoFinder();
         for (int r = 0; r < 6; r++) {
-            routine(x, 1, 10);
-            routine(x, 2, 10);
+            Checks.routine(x, 1, 10);
+            Checks.routine(x, 2, 10);
         }
         due("ways", x.many(2), 126);
         due("joints", x.many(5), 756);
@@ -719,7 +714,7 @@ public final class PromisesTest {
         due("pairs", x.many(7), 30);
         DoFinder y = new DoFinder();
         for (int r = 0; r < 12; r++) {
-            routine(y, 2, 10);
+            Checks.routine(y, 2, 10);
         }
         due("ways", y.many(2), 240);
         due("all are found", y.many(3), 240);
@@ -730,15 +725,16 @@ public final class PromisesTest {
         due("the numbers 0 to 9, and -6", y.parting(3), 11);
     }
 
-    private static void promise23Same() {
+    @Checks.Says("promise 23")
+    static void promise23Same() {
         DoFinder x = new DoFinder();
-        routine(x, 1, 10, 10, 12);
-        routine(x, 1, 10, 2, 14);
-        routine(x, 1, 10, 7, 16, 2, 14);
-        routine(x, 1, 10, 5, 16, 2, 14);
-        routine(x, 2, 10, 2, 14);
-        routine(x, 1, 1, 10, 15);
-        routine(x, 1, 10, 18, 14, 10, 18, 14, 10, 14, 15, 10, 14);
+        Checks.routine(x, 1, 10, 10, 12);
+        Checks.routine(x, 1, 10, 2, 14);
+        Checks.routine(x, 1, 10, 7, 16, 2, 14);
+        Checks.routine(x, 1, 10, 5, 16, 2, 14);
+        Checks.routine(x, 2, 10, 2, 14);
+        Checks.routine(x, 1, 1, 10, 15);
+        Checks.routine(x, 1, 10, 18, 14, 10, 18, 14, 10, 14, 15, 10, 14);
         due("doubles", x.same(0, 1), 1);
         due("beyond the world they differ", x.same(0, 2), 1);
         due("at 6 they differ", x.same(0, 3), 0);
@@ -756,24 +752,25 @@ public final class PromisesTest {
         due("KIND still", x.same(4, 0), KIND);
     }
 
-    private static void promise24Differ() {
+    @Checks.Says("promise 24")
+    static void promise24Differ() {
         DoFinder x = new DoFinder();
-        routine(x, 1, 10);
-        routine(x, 1, 10, 5, 16);
-        routine(x, 1, 10, 1, 14);
-        routine(x, 2, 10);
-        routine(x, 2, 11);
-        routine(x, 2, 10, 2, 16);
-        routine(x, 1, 10, 1, 10, 2, 12, 15, 20);
-        routine(x, 1, 5, 10, 22);
+        Checks.routine(x, 1, 10);
+        Checks.routine(x, 1, 10, 5, 16);
+        Checks.routine(x, 1, 10, 1, 14);
+        Checks.routine(x, 2, 10);
+        Checks.routine(x, 2, 11);
+        Checks.routine(x, 2, 10, 2, 16);
+        Checks.routine(x, 1, 10, 1, 10, 2, 12, 15, 20);
+        Checks.routine(x, 1, 5, 10, 22);
         due("at 6", x.differ(0, 1), 12);
         due("doubles", x.differ(0, 2), NONE);
         due("itself", x.differ(0, 0), NONE);
         due("at -3, -2", x.differ(3, 4), 1);
         due("at 3, -3", x.differ(3, 5), 42);
         due("BAD at -2", x.differ(0, 6), 4);
-        routine(x, 2, 10, 11, 12);
-        routine(x, 2, 10, 11, 12, 5, 16);
+        Checks.routine(x, 2, 10, 11, 12);
+        Checks.routine(x, 2, 10, 11, 12, 5, 16);
         due("at 3, 3, the last one", x.differ(8, 9), 48);
         due("UNKNOWN at -6", x.differ(7, 7), 0);
         due("UNKNOWN at -6", x.differ(0, 7), 0);
@@ -784,16 +781,17 @@ public final class PromisesTest {
         }
     }
 
-    private static void promise25First() {
+    @Checks.Says("promise 25")
+    static void promise25First() {
         DoFinder x = new DoFinder();
         due("none", x.first(0), NUMBER);
-        routine(x, 2, 10);
-        routine(x, 1, 10);
-        routine(x, 1, 1, 21);
-        routine(x, 1, 1, 21);
-        routine(x, 1, 10, 1, 14);
-        routine(x, 2, 10, 1, 14);
-        routine(x, 1, 10, 18, 20);
+        Checks.routine(x, 2, 10);
+        Checks.routine(x, 1, 10);
+        Checks.routine(x, 1, 1, 21);
+        Checks.routine(x, 1, 1, 21);
+        Checks.routine(x, 1, 10, 1, 14);
+        Checks.routine(x, 2, 10, 1, 14);
+        Checks.routine(x, 1, 10, 18, 20);
         due("itself", x.first(0), 0);
         due("itself, of unlike arguments", x.first(1), 1);
         due("UNKNOWN", x.first(2), 2);
@@ -811,25 +809,6 @@ public final class PromisesTest {
     }
 
     public static void main(String[] args) {
-        Runnable[] tests = {PromisesTest::constants, PromisesTest::promise1New, PromisesTest::promise2Step,
-            PromisesTest::promise3Scrap, PromisesTest::promise4Add, PromisesTest::promise5Mend,
-            PromisesTest::promise6Of, PromisesTest::promise7RunSteps, PromisesTest::promise7RunOutcomes,
-            PromisesTest::promise8Fuel, PromisesTest::promise9Limit, PromisesTest::promise10Ask,
-            PromisesTest::promise11Show, PromisesTest::promise12Leave, PromisesTest::promise13Drop,
-            PromisesTest::promise14Like, PromisesTest::promise14LikeOutcomes, PromisesTest::promise15Would,
-            PromisesTest::promise15WouldJoints, PromisesTest::promise16Found, PromisesTest::promise17Open,
-            PromisesTest::promise18Joint, PromisesTest::promise19Near, PromisesTest::promise20Misses,
-            PromisesTest::promise21Parting, PromisesTest::promise22Many, PromisesTest::promise22ManyAtMost,
-            PromisesTest::promise23Same, PromisesTest::promise24Differ, PromisesTest::promise25First};
-        String[] names = {"constants", "1", "2", "3", "4", "5", "6", "7", "7", "8", "9", "10", "11", "12", "13", "14",
-            "14", "15", "15", "16", "17", "18", "19", "20", "21", "22", "22", "23", "24", "25"};
-        for (int t = 0; t < tests.length; t++) {
-            where = "promise " + names[t];
-            tests[t].run();
-        }
-        System.out.println(checked + " answers looked at, " + wrong + " wrong");
-        if (wrong != 0) {
-            System.exit(1);
-        }
+        Checks.runAll(PromisesTest.class);
     }
 }

@@ -743,7 +743,8 @@ public final class RoutineEdgesTest {
         return x;
     }
 
-    @Checks.Says("fuel: How many STEPS that RUN does (up to the one at which it is BAD, that too; FUEL if it is UNKNOWN)")
+    @Checks.Says("fuel: How many STEPS that RUN does"
+        + " (up to the one at which it is BAD, that too; FUEL if it is UNKNOWN)")
     static void fuelCounts() {
         due("one", Checks.burnt(5, 6, 10), 1);
         due("12", Checks.burnt(5, 6, 10, 1, 12, 1, 12, 1, 12, 1, 12, 1, 12, 1), 12);
